@@ -453,6 +453,8 @@ public final class PromisesTest {
         refused("17 no more than 20", ELEMENT, x, x::undo);
         due("17 the fifth stays", x.low(0), 5);
 
+        undoesEachKind();
+
         Radixtape y = tape("12");
         y.wipe();
         y.wipe();
@@ -467,6 +469,35 @@ public final class PromisesTest {
         due("17 the register", y.low(3), 5);
         due("17 the register", y.undo(), 1);
         due("17 the register", y.low(3), 0);
+    }
+
+    private static void undoesEachKind() {
+        Radixtape x = tape("1a0");
+        x.set(0, -77);
+        undoes("type", x, () -> x.type('!'));
+        undoes("type of nothing", x, () -> x.type(0));
+        undoes("wipe", x, x::wipe);
+        undoes("reverse", x, x::reverse);
+        undoes("cut", x, () -> x.cut(0, 2));
+        undoes("setSign", x, () -> x.setSign(2, '9'));
+        undoes("capitals", x, () -> x.capitals(true));
+        undoes("capitals of none", x, () -> x.capitals(false));
+        undoes("read", x, () -> x.read(0, 16));
+        undoes("write", x, () -> x.write(0, 2));
+        undoes("change", x, () -> x.change(16, 2));
+        undoes("hear", x, () -> x.hear(0, 10, 8));
+        undoes("set", x, () -> x.set(0, 1));
+        undoes("add", x, () -> x.add(0, 3));
+        undoes("multiply", x, () -> x.multiply(0, 5, 5));
+        undoes("negate", x, () -> x.negate(0));
+        undoes("step", x, () -> x.step(0, 10, true));
+    }
+
+    private static void undoes(String kind, Radixtape x, Call change) {
+        String before = stateOf(x);
+        change.run();
+        due("17 how many more behind " + kind, x.undo(), 2);
+        dueString("17 " + kind + " is undone", stateOf(x), before);
     }
 
     private static void promise18Length() {
@@ -638,6 +669,8 @@ public final class PromisesTest {
         dueReal("30 base 36", x.digitShare(36), 0.75f);
         typeText(x, "+ ~");
         dueReal("30 of seven", x.digitShare(36), 3.0f / 7.0f);
+        dueReal("30 all of them", tape("1f7").digitShare(16), 1.0f);
+        dueReal("30 the ends", tape("1!f").digitShare(16), 2.0f / 3.0f);
         refused("30 base 1", ARGUMENT, x, () -> x.digitShare(1));
         refused("30 base 37", ARGUMENT, x, () -> x.digitShare(37));
         refused("30 base -1", ARGUMENT, x, () -> x.digitShare(-1));
