@@ -77,6 +77,7 @@ public final class FaceTest {
                 due(method + " is static", !Modifier.isStatic(method.getModifiers()));
             } else {
                 due(method + " is not private", isPrivate(method));
+                due(method + " bears the name of a public one", !publicNames().contains(method.getName()));
             }
         }
         for (String method : FACE) {
@@ -85,6 +86,14 @@ public final class FaceTest {
         for (String method : got) {
             due("not in the document: " + method, FACE.contains(method));
         }
+    }
+
+    private static Set<String> publicNames() {
+        Set<String> names = new TreeSet<>();
+        for (String method : FACE) {
+            names.add(method.substring(method.indexOf(' ') + 1, method.indexOf('(')));
+        }
+        return names;
     }
 
     private static String described(Method method) {
@@ -115,10 +124,7 @@ public final class FaceTest {
     }
 
     private static void checkNestedClasses() {
-        Set<String> names = new TreeSet<>();
-        for (String method : FACE) {
-            names.add(method.substring(method.indexOf(' ') + 1, method.indexOf('(')));
-        }
+        Set<String> names = publicNames();
         due("too many classes", Radixtape.class.getDeclaredClasses().length < 12);
         for (Class<?> inside : Radixtape.class.getDeclaredClasses()) {
             int modifiers = inside.getModifiers();
