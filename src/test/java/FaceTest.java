@@ -8,6 +8,8 @@ import java.nio.file.Files;
 import java.nio.file.Path;
 import java.util.Set;
 import java.util.TreeSet;
+import java.util.regex.Matcher;
+import java.util.regex.Pattern;
 
 /** The face is the document's and no more, and the source keeps to those rules of LANGUAGE.md that a look can tell. */
 public final class FaceTest {
@@ -49,10 +51,19 @@ public final class FaceTest {
             "float digitShare(int) " + ARGUMENT,
             "int errors()");
 
-    /** What the rules leave out, and what a class whose calls need no room has no use for. */
+    /** What the rules leave out; comments and texts are taken out before it is looked for. */
     private static final String[] ABSENT = {
-        "->", "::", "try", "catch", "finally", "synchronized", "assert ", "Exact(", "String", "import static",
-        "package ", "static {", "instanceof", "System.", "Object"};
+        "::", "\\bfinally\\b", "\\bsynchronized\\b", "\\bassert\\b", "Exact\\(", "\\bpackage\\b", "\\bimport static\\b",
+        "\\bstatic \\{", "\\b(Strict)?Math\\.(sqrt|pow|log|random|round|floor|ceil)\\b", "\\bNaN\\b", "\\bRandom\\b",
+        "\\bThread\\b", "\\bSystem\\.(?!arraycopy\\b)", "\\bBigInteger\\b", "\\bequals\\(Object\\b", "\\bhashCode\\b",
+        "\\bcatch \\([^)]*\\b(Throwable|Error|Exception|RuntimeException|NullPointerException|ClassCastException"
+            + "|ArrayIndexOutOfBoundsException|NegativeArraySizeException|ArrayStoreException)\\b"};
+
+    private static final String[] IMPORTS = {"ArrayList", "Arrays", "Iterator", "List", "NoSuchElementException"};
+
+    /** NumberFormatException is the document's own, beside those of rule 6. */
+    private static final String THROWN = "(IllegalState|IllegalArgument|IndexOutOfBounds|Arithmetic"
+            + "|UnsupportedOperation|NoSuchElement|Runtime|NumberFormat)Exception";
 
     private static int wrong = 0;
 
@@ -78,6 +89,7 @@ public final class FaceTest {
             } else {
                 due(method + " is not private", isPrivate(method));
                 due(method + " bears the name of a public one", !publicNames().contains(method.getName()));
+                due(method + " is a lambda", !method.getName().startsWith("lambda$"));
             }
         }
         for (String method : FACE) {
@@ -125,29 +137,45 @@ public final class FaceTest {
 
     private static void checkNestedClasses() {
         Set<String> names = publicNames();
-        due("too many classes", Radixtape.class.getDeclaredClasses().length < 12);
-        for (Class<?> inside : Radixtape.class.getDeclaredClasses()) {
+        Class<?>[] classes = Radixtape.class.getDeclaredClasses();
+        due("too many classes", classes.length <= 12);
+        for (Class<?> inside : classes) {
             int modifiers = inside.getModifiers();
-            due(inside + " is not static", Modifier.isStatic(modifiers));
             due(inside + " is public", !Modifier.isPublic(modifiers) && !Modifier.isProtected(modifiers));
             for (Method method : inside.getDeclaredMethods()) {
-                due(method + " bears the name of a public one", !names.contains(method.getName()));
+                boolean bearsName = isPrivate(method) && names.contains(method.getName());
+                due(method + " bears the name of a public one", !bearsName);
             }
         }
     }
 
     private static void checkSource(String source) {
-        for (String word : ABSENT) {
-            due("the source has: " + word, !source.contains(word));
+        String bare = withoutTexts(source);
+        for (String words : ABSENT) {
+            due("the source has: " + words, !Pattern.compile(words).matcher(bare).find());
         }
-        for (String line : source.split("\n")) {
+        for (String line : bare.split("\n")) {
             String part = line.strip();
-            due("another import: " + part, !part.startsWith("import ")
-                    || part.equals("import java.util.NoSuchElementException;"));
-            boolean isMadeOnce = part.startsWith("private final ") || part.startsWith("final ")
-                    || part.startsWith("past[i] = ") || part.startsWith("registers[i] = ");
-            due("made in a call: " + part, !part.contains("new ") || part.startsWith("throw new ") || isMadeOnce);
+            due("another import: " + part, !part.startsWith("import ") || isAllowedImport(part));
         }
+        Matcher thrown = Pattern.compile("\\bthrow\\b *(new *(?:java\\.\\w+\\.)?(\\w+))?").matcher(bare);
+        while (thrown.find()) {
+            String name = thrown.group(2);
+            due("another exception is thrown: " + name, name != null && name.matches(THROWN));
+        }
+    }
+
+    private static boolean isAllowedImport(String line) {
+        for (String name : IMPORTS) {
+            if (line.equals("import java.util." + name + ";")) {
+                return true;
+            }
+        }
+        return false;
+    }
+
+    private static String withoutTexts(String source) {
+        return source.replaceAll("\"(\\\\.|[^\"\\\\\n])*\"", "\"\"").replaceAll("(?s)/\\*.*?\\*/", "").replaceAll("//.*", "");
     }
 
     private static boolean isPrivate(Member member) {

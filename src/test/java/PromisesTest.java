@@ -1,22 +1,7 @@
 import java.math.BigInteger;
-import java.util.NoSuchElementException;
 
 /** Each promise of the document: ordinary inputs, the edges that it names, and wrong inputs. */
-public final class PromisesTest {
-    private static final BigInteger LIMIT = BigInteger.ONE.shiftLeft(800);
-    private static final BigInteger GREATEST = LIMIT.subtract(BigInteger.ONE);
-    private static final Class<?> INDEX = IndexOutOfBoundsException.class;
-    private static final Class<?> ARGUMENT = IllegalArgumentException.class;
-    private static final Class<?> STATE = IllegalStateException.class;
-    private static final Class<?> FORMAT = NumberFormatException.class;
-    private static final Class<?> ELEMENT = NoSuchElementException.class;
-
-    private static int wrong = 0;
-
-    private interface Call {
-        void run();
-    }
-
+public final class PromisesTest extends Checks {
     public static void main(String[] args) {
         promise1NewObject();
         promise2Type();
@@ -49,10 +34,7 @@ public final class PromisesTest {
         promise29MeanDigit();
         promise30DigitShare();
         promise31Errors();
-        System.out.println(wrong == 0 ? "all promises hold" : wrong + " answers are wrong");
-        if (wrong != 0) {
-            System.exit(1);
-        }
+        end("all promises hold");
     }
 
     private static void promise1NewObject() {
@@ -493,7 +475,7 @@ public final class PromisesTest {
         undoes("step", x, () -> x.step(0, 10, true));
     }
 
-    private static void undoes(String kind, Radixtape x, Call change) {
+    private static void undoes(String kind, Radixtape x, Runnable change) {
         String before = stateOf(x);
         change.run();
         due("17 how many more behind " + kind, x.undo(), 2);
@@ -716,112 +698,5 @@ public final class PromisesTest {
         for (int base : new int[] {Integer.MIN_VALUE, -10, 0, 1, 37, Integer.MAX_VALUE}) {
             refused(what + " base " + base, ARGUMENT, x, () -> question.ask(0, base));
         }
-    }
-
-    private static Radixtape tape(String text) {
-        Radixtape x = new Radixtape();
-        typeText(x, text);
-        return x;
-    }
-
-    private static void typeText(Radixtape x, String text) {
-        long signs = 0;
-        for (int i = 0; i < text.length(); i++) {
-            signs = signs << 8 | text.charAt(i);
-            if (i % 8 == 7 || i == text.length() - 1) {
-                x.type(signs);
-                signs = 0;
-            }
-        }
-    }
-
-    private static Radixtape withRegister(int register, BigInteger number) {
-        Radixtape x = new Radixtape();
-        putRegister(x, register, number);
-        return x;
-    }
-
-    /** Goes by set and multiply, whose answers other promises hold to BigInteger's. */
-    private static void putRegister(Radixtape x, int register, BigInteger number) {
-        BigInteger size = number.abs();
-        x.set(register, 0);
-        for (int part = (size.bitLength() + 29) / 30 - 1; part >= 0; part--) {
-            int bits = size.shiftRight(30 * part).intValue() & (1 << 30) - 1;
-            x.multiply(register, 1 << 30, bits);
-        }
-        if (number.signum() < 0) {
-            x.negate(register);
-        }
-    }
-
-    private static String textOf(Radixtape x) {
-        StringBuilder text = new StringBuilder();
-        for (int i = 0; i < x.length(); i++) {
-            text.append((char) x.signAt(i));
-        }
-        return text.toString();
-    }
-
-    private static BigInteger numberOf(Radixtape x, int register) {
-        BigInteger size = BigInteger.ZERO;
-        for (int i = x.digits(register, 16) - 1; i >= 0; i--) {
-            size = size.shiftLeft(4).add(BigInteger.valueOf(x.digitAt(register, 16, i)));
-        }
-        return x.signum(register) < 0 ? size.negate() : size;
-    }
-
-    private static String stateOf(Radixtape x) {
-        StringBuilder state = new StringBuilder(textOf(x));
-        for (int register = 0; register < 4; register++) {
-            state.append('|').append(x.signum(register)).append(numberOf(x, register));
-        }
-        return state.toString();
-    }
-
-    private static void due(String what, long got, long want) {
-        if (got != want) {
-            report(what + " answered " + got + ", due is " + want);
-        }
-    }
-
-    private static void dueReal(String what, double got, double want) {
-        if (got != want) {
-            report(what + " answered " + got + ", due is " + want);
-        }
-    }
-
-    private static void dueString(String what, String got, String want) {
-        if (!got.equals(want)) {
-            report(what + " is " + got + ", due is " + want);
-        }
-    }
-
-    private static void dueText(String what, Radixtape x, String want) {
-        dueString(what, textOf(x), want);
-    }
-
-    private static void dueNumber(String what, Radixtape x, int register, BigInteger want) {
-        due(what + ", its signum", x.signum(register), want.signum());
-        dueString(what, numberOf(x, register).toString(), want.toString());
-    }
-
-    /** The very exception is due, and the object is as it was. */
-    private static void refused(String what, Class<?> want, Radixtape x, Call call) {
-        String before = stateOf(x);
-        Class<?> got = null;
-        try {
-            call.run();
-        } catch (RuntimeException e) {
-            got = e.getClass();
-        }
-        if (got != want) {
-            report(what + " throws " + got + ", due is " + want);
-        }
-        dueString(what + " changes nothing", stateOf(x), before);
-    }
-
-    private static void report(String line) {
-        wrong++;
-        System.out.println(line.length() > 400 ? line.substring(0, 400) + " .." : line);
     }
 }
