@@ -477,7 +477,9 @@ public final class ChangesTest extends Sentences {
 
     private static void readNoNumber() {
         for (int base : NO_BASES) {
-            refuses("read in base " + base, FORMAT, () -> tape("1"), x -> x.read(0, base));
+            refuses("read of 1 in base " + base, FORMAT, () -> tape("1"), x -> x.read(0, base));
+            refuses("read of -0 in base " + base, FORMAT, () -> tape("-0"), x -> x.read(0, base));
+            refuses("read of nothing in base " + base, FORMAT, Radixtape::new, x -> x.read(0, base));
         }
         for (int base = 2; base <= 36; base++) {
             int known = base;
@@ -607,7 +609,9 @@ public final class ChangesTest extends Sentences {
 
     private static void changeNoNumber() {
         for (int base : NO_BASES) {
-            refuses("change from base " + base, FORMAT, () -> tape("1"), x -> x.change(base, 10));
+            refuses("change of 1 from base " + base, FORMAT, () -> tape("1"), x -> x.change(base, 10));
+            refuses("change of 0 from base " + base, FORMAT, () -> tape("0"), x -> x.change(base, 10));
+            refuses("change of nothing from base " + base, FORMAT, Radixtape::new, x -> x.change(base, 10));
         }
         for (int base = 2; base <= 36; base++) {
             int known = base;

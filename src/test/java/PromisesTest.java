@@ -185,6 +185,7 @@ public final class PromisesTest extends Checks {
             notRead(noDigit, 36, FORMAT);
         }
         notRead("1", 1, FORMAT);
+        notRead("0", 1, FORMAT);
         notRead("1", 37, FORMAT);
         notRead("1", 0, FORMAT);
         notRead("1", -10, FORMAT);
@@ -505,6 +506,7 @@ public final class PromisesTest extends Checks {
     private static void promise20IsNumber() {
         for (int base = -2; base <= 40; base++) {
             boolean isBase = base >= 2 && base <= 36;
+            due("20 0", tape("-0").isNumber(base) ? 1 : 0, isBase ? 1 : 0);
             due("20 1", tape("+1").isNumber(base) ? 1 : 0, isBase ? 1 : 0);
             due("20 G", tape("-G").isNumber(base) ? 1 : 0, isBase && base >= 17 ? 1 : 0);
             due("20 empty", new Radixtape().isNumber(base) ? 1 : 0, 0);

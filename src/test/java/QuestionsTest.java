@@ -273,8 +273,11 @@ public final class QuestionsTest extends Sentences {
     }
 
     private static void isNumberInBase2To36() {
-        for (int base = -300; base <= 300; base++) {
-            due("isNumber in " + base, tape("1").isNumber(base), base >= 2 && base <= 36);
+        Radixtape full = tape("0".repeat(1200));
+        for (int base = -150; base <= 150; base++) {
+            due("isNumber of 1 in " + base, tape("1").isNumber(base), base >= 2 && base <= 36);
+            due("isNumber of 0 in " + base, tape("0").isNumber(base), base >= 2 && base <= 36);
+            due("isNumber of 1200 digits 0 in " + base, full.isNumber(base), base >= 2 && base <= 36);
             due("isNumber of nothing in " + base, new Radixtape().isNumber(base), false);
         }
         due("isNumber in the least int", tape("1").isNumber(Integer.MIN_VALUE), false);

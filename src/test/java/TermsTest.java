@@ -525,11 +525,16 @@ public final class TermsTest extends Sentences {
             dueNumber("what is heard in " + base, heard, 0, -base);
         }
         for (int base : OTHER_BASES) {
-            Recipe recipe = () -> tape("-10");
-            due("isNumber in " + base, recipe.make().isNumber(base), false);
-            refuses("read in " + base, FORMAT, recipe, x -> x.read(0, base));
-            refuses("change from " + base, FORMAT, recipe, x -> x.change(base, 10));
-            refuses("hear in " + base, FORMAT, recipe, x -> x.hear(0, 10, base));
+            // In a base 1 the digits 0 could pass for a number.
+            for (String text : new String[] {"-10", "0", "+00", "z"}) {
+                Recipe recipe = () -> tape(text);
+                String what = " of " + text + " in " + base;
+                due("isNumber" + what, recipe.make().isNumber(base), false);
+                refuses("read" + what, FORMAT, recipe, x -> x.read(0, base));
+                refuses("change" + what, FORMAT, recipe, x -> x.change(base, 10));
+            }
+            refuses("hear of 0 in " + base, FORMAT, Radixtape::new, x -> x.hear(0, 10, base));
+            refuses("hear of -10 in " + base, FORMAT, () -> withRegister(0, -10), x -> x.hear(0, 10, base));
         }
     }
 
@@ -815,7 +820,7 @@ public final class TermsTest extends Sentences {
     }
 
     private static void changeSomehow(Radixtape x, int way) {
-        int register = way % 4;
+        int register = (way + way / 8) % 4;
         switch (way % 8) {
             case 0 -> x.set(register, way);
             case 1 -> x.cut(0, x.length() / 2);
