@@ -2,9 +2,6 @@ import java.math.BigInteger;
 
 /** Each sentence of the document's promises 1 to 16 (a new object, and the changes) has a test of its own here. */
 public final class ChangesTest extends Sentences {
-    private static final int[] NO_REGISTERS = {Integer.MIN_VALUE, -1, 4, Integer.MAX_VALUE};
-    private static final int[] NO_BASES = {Integer.MIN_VALUE, -10, -1, 0, 1, 37, 256 + 10, Integer.MAX_VALUE};
-    private static final String NO_REGISTER = "Throws `IndexOutOfBoundsException` if there is no such register";
     private static final String TOO_LONG = "Throws `IllegalStateException` if the tape would be longer than 1200 signs";
     private static final String NO_NUMBER =
             "Throws `NumberFormatException` if base is not 2 to 36, or the tape is no number in this base";

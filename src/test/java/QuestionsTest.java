@@ -4,9 +4,6 @@ import java.util.List;
 
 /** Each sentence of the document's promises 17 to 31 (undoing, and the questions) has a test of its own here. */
 public final class QuestionsTest extends Sentences {
-    private static final int[] NO_REGISTERS = {Integer.MIN_VALUE, -1, 4, Integer.MAX_VALUE};
-    private static final int[] NO_BASES = {Integer.MIN_VALUE, -10, -1, 0, 1, 37, 256 + 10, Integer.MAX_VALUE};
-    private static final String NO_REGISTER = "Throws `IndexOutOfBoundsException` if there is no such register";
     private static final String NO_BASE = "Throws `IllegalArgumentException` if base is out of range";
 
     /** A question about a register in a base. */

@@ -3,8 +3,11 @@ import java.lang.management.ManagementFactory;
 
 /** What an object and its 512 calls make must stay in the room that all calls of one run share. */
 public final class RoomTest extends Checks {
-    /** 7.3 million fields and elements of 8 bytes, and the heads of 600,000 objects: more than this is too much. */
-    private static final long ROOM = 7_300_000L * 8 + 600_000L * 16;
+    /**
+     * In bytes: a field or element takes one at least and an object 16, so that what stays below this is less
+     * than 7.3 million fields and elements, and less than 600,000 objects.
+     */
+    private static final long ROOM = 7_300_000L;
     private static final int CALLS = 512;
 
     private static ThreadMXBean threads;

@@ -5,9 +5,6 @@ import java.util.List;
 /** Each sentence of the document's Terms 1 to 3, and of what it is, has a test of its own here. */
 public final class TermsTest extends Sentences {
     private static final String TERMS = "Terms";
-    private static final int[] NO_REGISTERS = {Integer.MIN_VALUE, -5, -1, 4, 5, 256, Integer.MAX_VALUE};
-    private static final int[] OTHER_BASES = {
-        Integer.MIN_VALUE, -36, -16, -10, -2, -1, 0, 1, 37, 38, 64, 256 + 2, 65536 + 16, Integer.MAX_VALUE};
 
     /** A call that is told a register; the others that it takes are there. */
     private interface RegisterCall {
@@ -524,7 +521,7 @@ public final class TermsTest extends Sentences {
             due("hear in " + base, heard.hear(0, 10, base), -1);
             dueNumber("what is heard in " + base, heard, 0, -base);
         }
-        for (int base : OTHER_BASES) {
+        for (int base : NO_BASES) {
             // In a base 1 the digits 0 could pass for a number.
             for (String text : new String[] {"-10", "0", "+00", "z"}) {
                 Recipe recipe = () -> tape(text);
@@ -618,7 +615,7 @@ public final class TermsTest extends Sentences {
     private static void otherBaseAsInBase10() {
         for (BigInteger number : new BigInteger[] {BigInteger.ZERO, BigInteger.valueOf(-255), GREATEST}) {
             String text = number.toString(10);
-            for (int base : OTHER_BASES) {
+            for (int base : NO_BASES) {
                 Radixtape x = withRegister(0, number);
                 due("write in " + base, x.write(0, base), text.length());
                 dueText("written in " + base, x, text);

@@ -6,6 +6,11 @@ import java.util.List;
 
 /** Tests that each hold one sentence of the document, told by its own words and the part that it stands in. */
 abstract class Sentences extends Checks {
+    static final int[] NO_REGISTERS = {Integer.MIN_VALUE, -5, -1, 4, 5, 256, Integer.MAX_VALUE};
+    static final int[] NO_BASES = {
+        Integer.MIN_VALUE, -36, -16, -10, -2, -1, 0, 1, 37, 38, 64, 256 + 2, 256 + 10, 65536 + 16, Integer.MAX_VALUE};
+    static final String NO_REGISTER = "Throws `IndexOutOfBoundsException` if there is no such register";
+
     private static final List<String> parts = new ArrayList<>();
     private static final List<String> quotes = new ArrayList<>();
 
