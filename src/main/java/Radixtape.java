@@ -529,11 +529,15 @@ public final class Radixtape {
         }
         for (int i = start; i < text.count; i++) {
             int sign = text.at(i);
-            if (!isDigit(sign, base) || signOf(digitOf(sign)) != sign) {
+            if (!isDigit(sign, base) || isCapital(sign)) {
                 return false;
             }
         }
         return text.at(start) != '0' || text.count == start + 1 && number.sign == 0;
+    }
+
+    private static boolean isCapital(int sign) {
+        return sign >= 'A' && sign <= 'Z';
     }
 
     private int digitsByPowers(Whole number, int base) {
