@@ -7,8 +7,9 @@ import java.nio.file.Path;
  * the class's text with other words, in which that check alone can find what is not so.
  */
 public final class TheoremTest extends Checks {
-    /** The broken versions ask for the one base in which they are broken. */
+    /** Broken versions ask for the one base, or the one digit, for which they are broken. */
     private static final String BROKEN_BASE = "broken.base";
+    private static final String BROKEN_DIGIT = "broken.digit";
     private static final String IS_BROKEN_BASE = "base == Integer.getInteger(\"" + BROKEN_BASE + "\", 0)";
 
     private static final String READ_REFUSES =
@@ -19,6 +20,8 @@ public final class TheoremTest extends Checks {
             "return text.at(start) != '0' || text.count == start + 1 && number.sign == 0;";
     private static final String COUNT_BY_POWERS = "text.count - start != digitsByPowers(number, base)";
     private static final String ZEROS_DROPPED = "spelled.dropZerosBehind();";
+
+    private static final int BASES = 35;
 
     private static String source = "";
 
@@ -58,14 +61,14 @@ public final class TheoremTest extends Checks {
     private static void plusIsPutAhead() throws ReflectiveOperationException, IOException {
         Class<?> broken = withOtherWords("return first == '+' || first == '-' ? 1 : 0;",
                 "return first == '-' ? 1 : 0;");
-        finds("a plus ahead of 5 is refused", broken, "", 5, -5, -5, -5);
-        finds("a plus ahead of 0 is refused", broken, "", -5, -5, -5, 0);
+        due("errors() where a plus ahead of 5 is refused", errorsOf(broken, "", 5, -5, -5, -5), BASES);
+        due("errors() where a plus ahead of 0 is refused", errorsOf(broken, "", -5, 0, -5, 0), 2 * BASES);
         findsNone("no plus is put ahead of what is below 0", broken, "", -5, -1, -77, Long.MIN_VALUE);
     }
 
     private static void capitalsAreRead() throws ReflectiveOperationException, IOException {
         Class<?> broken = withOtherWords("return sign - 'A' + 10;", "return NONE;");
-        finds("capitals are refused", broken, "", 1, 1, 1, 255);
+        due("errors() where capitals are refused, as 10 has one from base 11 on", errorsOf(broken, "", 1, 10, 1, 1), 26);
         finds("capitals behind a minus are refused", broken, "", 1, 1, 1, -255);
         findsNone("there are no letters in 1", broken, "", 1, 1, 1, -1);
     }
@@ -79,8 +82,12 @@ public final class TheoremTest extends Checks {
 
     /** Whatever else could find the same is taken out of each of these versions. */
     private static void formIsLookedAt() throws ReflectiveOperationException, IOException {
-        Class<?> large = withOtherWords("'a' + digit - 10", "'A' + digit - 10");
-        finds("capitals are written", large, "", 255, 0, 0, 0);
+        Class<?> large = withOtherWords("'a' + digit - 10",
+                "(digit == Integer.getInteger(\"" + BROKEN_DIGIT + "\", 0) ? 'A' : 'a') + digit - 10");
+        for (int digit = 10; digit < 36; digit++) {
+            System.setProperty(BROKEN_DIGIT, String.valueOf(digit));
+            finds("the digit " + digit + " is written as a capital", large, "", 0, 0, digit, 0);
+        }
         Class<?> zeros = withOtherWords(ZEROS_DROPPED, "", COUNT_BY_POWERS, "start < 0");
         finds("digits 0 are written ahead", zeros, "", 5, 5, 5, 5);
         Class<?> minus = withOtherWords("if (number.sign < 0) {\n            signs.append('-');",
